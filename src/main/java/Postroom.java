@@ -1,5 +1,3 @@
-import java.util.Arrays;
-
 /**
  * A post room: one text is typed and turned about, letters are posted into two stores and go out by
  * a clock. What each call answers is promised in ../shared/DOC.md.
@@ -1874,8 +1872,7 @@ public final class Postroom {
 
         int[] refsIn() {
             takeHead(HEAD_R);
-            int count = readRefs() ? refCount : 0;
-            return Arrays.copyOf(refs, count);
+            return copyOf(refs, readRefs() ? refCount : 0);
         }
 
         int borderIn() {
@@ -1908,7 +1905,14 @@ public final class Postroom {
         }
 
         int[] leavesOut() {
-            return Arrays.copyOf(leaves, leafCount * LEAF_FACTS);
+            return copyOf(leaves, leafCount * LEAF_FACTS);
+        }
+
+        private static int[] copyOf(int[] numbers, int count) {
+            int length = Math.max(0, Math.min(count, numbers.length));
+            int[] exact = new int[length];
+            System.arraycopy(numbers, 0, exact, 0, length);
+            return exact;
         }
     }
 

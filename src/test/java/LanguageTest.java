@@ -136,7 +136,7 @@ public final class LanguageTest {
         String[][] words = {
             {"6", "\\bcatch\\b|\\bfinally\\b|\\bsynchronized\\b|\\bassert\\b"}, {"2", "->|::"},
             {"10", "\"\"\\s*\\+|\\+\\s*\"\""}, {"5", "\\bstatic\\s*\\{"}, {"13", "\\bSystem\\.(?!arraycopy)"},
-            {"4", "Exact\\b"}, {"4", "\\bimport (?!java\\.util\\.Arrays;)"}, {"6", "\\bequals\\(Object|hashCode|toString\\("},
+            {"4", "Exact\\b"}, {"4", "\\bimport\\b"}, {"6", "\\bequals\\(Object|hashCode|toString\\("},
             {"9", "while \\(true\\)|for \\(;;\\)"}, {"1", "^package"},
         };
         for (String[] word : words) {
