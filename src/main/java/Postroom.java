@@ -201,9 +201,7 @@ public final class Postroom {
 
     public int answer(int letter, int from, int name, boolean isForward)
             throws IndexOutOfBoundsException, IllegalArgumentException {
-        if (!shelf.has(letter)) {
-            throw new IndexOutOfBoundsException("no such letter");
-        }
+        checkLetter(letter);
         if (!isAddress(from) || !isNumber(name)) {
             throw new IllegalArgumentException("no such address or number");
         }
@@ -465,7 +463,7 @@ public final class Postroom {
         return store >= 0 && store < STORES;
     }
 
-    private void checkStore(int store) {
+    private static void checkStore(int store) {
         if (!isStore(store)) {
             throw new IndexOutOfBoundsException("no such store");
         }
@@ -480,22 +478,22 @@ public final class Postroom {
         if (letter == NONE && shelf.count >= LETTERS_LIMIT) {
             throw new IllegalStateException("there are 30 letters");
         }
-        Store place = stores[store];
+        Store here = stores[store];
         if (letter != NONE && !tape.isLike(shelf.letters[letter].signs)) {
             return NAME_TAKEN;
         }
-        if (letter != NONE && place.isHeld(letter)) {
+        if (letter != NONE && here.isHeld(letter)) {
             return TOO_MUCH;
         }
-        if (tape.size > place.quota) {
+        if (tape.size > here.quota) {
             return ABOVE_QUOTA;
         }
         if (letter == NONE) {
             letter = shelf.add(new Letter(reading, clock));
         }
-        throwOut(place, tape.size);
+        throwOut(here, tape.size);
         comeInto(store, letter, 0);
-        link(place);
+        link(here);
         return letter;
     }
 
@@ -575,7 +573,7 @@ public final class Postroom {
 
     private boolean fits(int store, int n, int kind, int value) {
         Letter letter = shelf.letters[n];
-        Store place = stores[store];
+        Store here = stores[store];
         switch (kind) {
             case 0:
                 return isWordLetter(letter.from, letter.hostAt, value);
@@ -588,11 +586,11 @@ public final class Postroom {
             case 4:
                 return letter.isTo(value);
             case 5:
-                return value < FLAGS && ((place.flags[n] >> value) & 1) == 1;
+                return value < FLAGS && ((here.flags[n] >> value) & 1) == 1;
             case 6:
                 return letter.time >= value;
             default:
-                return place.isHeld(value) && place.rootOf(value) == place.rootOf(n);
+                return here.isHeld(value) && here.rootOf(value) == here.rootOf(n);
         }
     }
 
@@ -614,28 +612,16 @@ public final class Postroom {
         if (which < 0 || which >= FLAGS) {
             throw new IllegalArgumentException("a flag is 0 to 3");
         }
-        Store place = stores[store];
-        int old = place.flags[letter];
+        Store here = stores[store];
+        int old = here.flags[letter];
         int bit = 1 << which;
-        place.setFlags(letter, isOn ? old | bit : old & ~bit);
+        here.setFlags(letter, isOn ? old | bit : old & ~bit);
         return (old >> which) & 1;
     }
 
     public int expunge(int store) throws IndexOutOfBoundsException {
         checkStore(store);
-        Store place = stores[store];
-        int before = place.held;
-        int next = 0;
-        for (int turn = 0; turn < before; turn++) {
-            int letter = place.byPlace[next];
-            if ((place.flags[letter] & GONE) != 0) {
-                leave(place, letter);
-            } else {
-                next++;
-            }
-        }
-        link(place);
-        return before - place.held;
+        return leaveAll(stores[store], NONE);
     }
 
     public int expire(int store, int minutes) throws IndexOutOfBoundsException, IllegalArgumentException {
@@ -643,19 +629,27 @@ public final class Postroom {
         if (!isNumber(minutes)) {
             throw new IllegalArgumentException("minutes are 0 to 999");
         }
-        Store place = stores[store];
-        int before = place.held;
+        return leaveAll(stores[store], minutes);
+    }
+
+    /** Lets those leave that are gone (NONE), or that are so many minutes old; tells how many. */
+    private int leaveAll(Store store, int minutes) {
+        int before = store.held;
         int next = 0;
         for (int turn = 0; turn < before; turn++) {
-            int letter = place.byPlace[next];
-            if ((place.flags[letter] & MARKED) == 0 && clock - shelf.letters[letter].time >= minutes) {
-                leave(place, letter);
+            int letter = store.byPlace[next];
+            if (minutes == NONE ? (store.flags[letter] & GONE) != 0 : isExpired(store, letter, minutes)) {
+                leave(store, letter);
             } else {
                 next++;
             }
         }
-        link(place);
-        return before - place.held;
+        link(store);
+        return before - store.held;
+    }
+
+    private boolean isExpired(Store store, int letter, int minutes) {
+        return (store.flags[letter] & MARKED) == 0 && clock - shelf.letters[letter].time >= minutes;
     }
 
     public int quota(int store, int signs) throws IndexOutOfBoundsException, IllegalArgumentException {
@@ -663,10 +657,10 @@ public final class Postroom {
         if (signs < 100 || signs > 2000) {
             throw new IllegalArgumentException("a quota is 100 to 2000");
         }
-        Store place = stores[store];
-        place.quota = signs;
-        int thrown = throwOut(place, 0);
-        link(place);
+        Store here = stores[store];
+        here.quota = signs;
+        int thrown = throwOut(here, 0);
+        link(here);
         return thrown;
     }
 
@@ -730,12 +724,12 @@ public final class Postroom {
 
     public int rerun(int store) throws IndexOutOfBoundsException {
         checkStore(store);
-        Store place = stores[store];
+        Store here = stores[store];
         int boxed = 0;
-        for (int i = 0; i < place.held; i++) {
-            int letter = place.byPlace[i];
+        for (int i = 0; i < here.held; i++) {
+            int letter = here.byPlace[i];
             tryRules(store, letter);
-            boxed += place.boxes[letter] == 0 ? 0 : 1;
+            boxed += here.boxes[letter] == 0 ? 0 : 1;
         }
         return boxed;
     }
@@ -749,10 +743,10 @@ public final class Postroom {
     }
 
     private int writeBox(int store, int box) {
-        Store place = stores[store];
+        Store here = stores[store];
         draft.clear();
         for (int i = 0; i < shelf.count; i++) {
-            if (((place.boxes[i] >> box) & 1) == 1) {
+            if (((here.boxes[i] >> box) & 1) == 1) {
                 draft.putNext(i);
             }
         }
@@ -761,27 +755,27 @@ public final class Postroom {
 
     public int ofStore(int store, int what) throws IndexOutOfBoundsException, IllegalArgumentException {
         checkStore(store);
-        Store place = stores[store];
+        Store here = stores[store];
         switch (what) {
             case 0:
-                return place.held;
+                return here.held;
             case 1:
-                return place.signs;
+                return here.signs;
             case 2:
-                return place.quota;
+                return here.quota;
             case 3:
-                return place.count;
+                return here.count;
             case 4:
-                return place.places;
+                return here.places;
             case 5:
-                return place.threads();
+                return here.threads();
             case 6:
             case 7:
             case 8:
             case 9:
-                return place.flagged(what - 6);
+                return here.flagged(what - 6);
             case 10:
-                return place.thrown;
+                return here.thrown;
             default:
                 throw new IllegalArgumentException("what is 0 to 10");
         }
@@ -794,26 +788,26 @@ public final class Postroom {
     }
 
     private int writeSince(int store, int count) {
-        Store place = stores[store];
+        Store here = stores[store];
         draft.clear();
         int last = count;
-        for (int turn = 0; turn < place.held; turn++) {
-            int letter = place.nextStamp(last);
+        for (int turn = 0; turn < here.held; turn++) {
+            int letter = here.nextStamp(last);
             if (letter == NONE) {
                 break;
             }
             draft.putNext(letter);
-            last = place.stamps[letter];
+            last = here.stamps[letter];
         }
         return draft.size;
     }
 
     public String search(int store) throws IndexOutOfBoundsException {
         checkStore(store);
-        Store place = stores[store];
+        Store here = stores[store];
         draft.clear();
-        for (int i = 0; i < place.held; i++) {
-            int letter = place.byPlace[i];
+        for (int i = 0; i < here.held; i++) {
+            int letter = here.byPlace[i];
             if (tape.isIn(shelf.letters[letter].signs)) {
                 draft.putNext(letter);
             }
@@ -891,25 +885,25 @@ public final class Postroom {
         if (what < 0 || what > 6) {
             throw new IllegalArgumentException("what is 0 to 6");
         }
-        Store place = stores[store];
-        if (!place.isHeld(letter)) {
+        Store here = stores[store];
+        if (!here.isHeld(letter)) {
             return IMPOSSIBLE;
         }
         switch (what) {
             case 0:
-                return place.place[letter];
+                return here.place[letter];
             case 1:
-                return place.flags[letter];
+                return here.flags[letter];
             case 2:
-                return place.stamps[letter];
+                return here.stamps[letter];
             case 3:
-                return place.parent[letter];
+                return here.parent[letter];
             case 4:
-                return place.rootOf(letter);
+                return here.rootOf(letter);
             case 5:
-                return place.heldAhead(letter);
+                return here.heldAhead(letter);
             default:
-                return place.comingTo(letter);
+                return here.comingTo(letter);
         }
     }
 
@@ -923,14 +917,14 @@ public final class Postroom {
 
     private int writeThread(int store, int letter) {
         draft.clear();
-        Store place = stores[store];
-        if (place.isHeld(letter)) {
-            Store.putBranch(place, place.rootOf(letter), draft, 0);
+        Store here = stores[store];
+        if (here.isHeld(letter)) {
+            Store.putBranch(here, here.rootOf(letter), draft, 0);
         }
         return draft.size;
     }
 
-    private void checkFolder(int folder) {
+    private static void checkFolder(int folder) {
         if (folder < 0 || folder >= FOLDERS) {
             throw new IndexOutOfBoundsException("no such folder");
         }

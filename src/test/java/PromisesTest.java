@@ -123,6 +123,7 @@ public final class PromisesTest {
         due("say", x.say(0, -1, 8, 9, -1, 38), 4);
         due("typed", x.typed(), "a F|");
         due("taken away", x.say(39, 7, 39, 39, -1, -1), 2);
+        due("nothing to take away", new Postroom().say(39, 39, 0, -1, -1, -1), 1);
         due("typed", x.typed(), "a ");
         due("emptied", x.say(1, 2, 40, 39, 28, 37), 2);
         due("typed", x.typed(), "09");
@@ -229,6 +230,9 @@ public final class PromisesTest {
         type(x, times(14, "aaaaaaaaaa bbbbbbbbb ") + "cccc");
         due("too long", x.fold(), -4);
         due("nothing has changed", x.house(6), 298);
+        type(x, times(278, "a") + " " + times(20, "b"));
+        due("to 300 signs", x.fold(), 2);
+        due("300 signs", x.house(6), 300);
         due("an empty text", typing("").fold(), 1);
     }
 
@@ -376,6 +380,10 @@ public final class PromisesTest {
         fault(head + "|--5-|--5", 6);
         fault(head + "|--5 |--5-", 6);
         fault(head + "|--05|--5-", 6);
+        fault(head + "|a-5|--5-", 6);
+        fault(head + "|-a5|--5-", 6);
+        fault(head + "|5|--5-", 6);
+        fault(head + "|--5|-5-", 6);
         fault("F:a@a|I:1|K:d5", 3);
         fault("F:a@a|I:1|K:d", 2);
         fault("F:a@a|I:1|K:d05", 2);
@@ -450,6 +458,8 @@ public final class PromisesTest {
         list("a:b@c;d@e", -3);
         list("a:b@c;;", -3);
         list("a:b:c@d;;", -3);
+        list("a:b:c@d;", -3);
+        list("a:;b:;", -3);
         list("a@b:c@d;", -3);
         list("a<b:c@d;", -3);
         list("a:;,b:;", 0);
@@ -614,6 +624,12 @@ public final class PromisesTest {
         due("held", x.since(0, 0), "2 0");
         due("expire", x.expire(0, 0), 1);
         due("marked", x.since(0, 0), "0");
+        Postroom y = new Postroom();
+        post(y, 0, "F:a@a|I:1");
+        y.tick(9);
+        post(y, 0, "F:a@a|I:2|R:1");
+        y.expire(0, 9);
+        due("a parent expired", y.thread(0, 1) + y.held(0, 1, 3), "1-1");
         due("count", x.ofStore(0, 3), 6);
         post(x, 1, "F:a@a|I:1");
         due("the time is that when it came first", x.expire(1, 15), 1);
@@ -640,6 +656,10 @@ public final class PromisesTest {
         due("thrown out", x.ofStore(0, 10), 2);
         due("the other one", x.ofStore(1, 2), 600);
         due("2000", x.quota(0, 2000), 0);
+        post(x, 1, "F:a@a|I:9||" + times(80, "a"));
+        post(x, 1, "F:a@a|I:10|R:9");
+        due("a parent is thrown out", x.quota(1, 100), 1);
+        due("a parent is thrown out", x.thread(1, 5), "5");
         fails("store", INDEX, () -> x.quota(2, 0));
         fails("store", INDEX, () -> x.quota(-1, 100));
         fails("signs", ARGUMENT, () -> x.quota(0, 99));
@@ -686,6 +706,17 @@ public final class PromisesTest {
         due("above the quota of 0", x.bring(), -6);
         x.quota(0, 111);
         due("above no quota", x.bring(), 2);
+        Postroom z = new Postroom();
+        post(z, 0, "F:a@a|I:0||" + times(49, "a"));
+        post(z, 1, "F:a@a|I:1|R:0|" + times(5, "|aaaaaa"));
+        due("in a store alone", z.thread(1, 1), "1");
+        z.quota(1, 109);
+        due("as much as the quota of 1", z.bring(), 2);
+        due("parents in 0", z.thread(0, 1), "0(1)");
+        due("parents in 1", z.thread(1, 1), "0(1)");
+        z.expire(0, 0);
+        z.expire(1, 0);
+        due("what is held in none does not come", z.bring(), 0);
         Postroom y = new Postroom();
         post(y, 0, "F:a@a|I:0||" + times(49, "a"));
         post(y, 1, "F:a@a|I:1||" + times(40, "a"));
