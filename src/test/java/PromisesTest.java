@@ -471,6 +471,8 @@ public final class PromisesTest {
         list("((a)b)a@b(c)", 1);
         list("((a)a@b", -3);
         list("a@b|c@d", -3);
+        list(times(74, "a@b,") + "c@d", 75);
+        list(times(150, "(") + times(150, ")"), 0);
     }
 
     private static void p16() {
@@ -902,6 +904,21 @@ public final class PromisesTest {
         due("no body", x.ofLetter(3, 7), 0);
         post(x, 0, "F:a@a|I:4||");
         due("a body of an empty line", x.ofLetter(4, 7), 1);
+        Postroom y = new Postroom();
+        post(y, 0, "F:a@a|I:0|K:d0||--0" + times(68, "|--0") + "|--0-");
+        due("as many leaves as there can be", y.ofLetter(0, 3), 69);
+        due("the last leaf", y.leaf(0, 68, 4), 1);
+        due("behind the last leaf", y.leaf(0, 69, 4), -1);
+        post(y, 0, "F:a@a|I:1|T:" + times(71, "a@a,") + "b@b");
+        due("as many addresses as there can be", y.ofLetter(1, 6), 72);
+        due("as many addresses as there can be", y.text(1, 5), times(71, "a@a ") + "b@b");
+        post(y, 1, "F:a@a|I:2|R:" + times(143, "0 ") + "7");
+        due("as many numbers as there can be", y.ofLetter(2, 5), 144);
+        due("an answer would be too long", y.answer(2, 0, 3, false), -4);
+        due("passed on", y.answer(2, 0, 3, true), 15);
+        due("as many lines as there can be", type(y, times(300, "|")).unfold(), 301);
+        due("as many lines as there can be", y.depth(300), 0);
+        due("as many lines as there can be", y.quote(), -4);
         fails("letter", INDEX, () -> x.ofLetter(5, 10));
         fails("letter", INDEX, () -> x.ofLetter(-1, 0));
         fails("what", ARGUMENT, () -> x.ofLetter(0, 10));
