@@ -7,7 +7,6 @@ import java.util.List;
 /** The document, and the tests that quote its sentences: a sentence without a test is told at the end. */
 final class Book {
     static final int DESCRIPTION = 0;
-    private static final int PROMISES = 48;
 
     private final List<Section> sections = new ArrayList<>();
     private String testing = "";
@@ -70,14 +69,13 @@ final class Book {
     }
 
     Book(Path document) throws IOException {
-        for (int i = 0; i <= PROMISES; i++) {
-            sections.add(new Section());
-        }
         Section open = null;
         for (String line : Files.readAllLines(document)) {
             if (line.startsWith("## ")) {
-                open = line.equals("## Description") ? sections.get(DESCRIPTION)
-                        : line.startsWith("## Promise ") ? sections.get(Integer.parseInt(line.split("[ :]+")[2])) : null;
+                open = line.equals("## Description") || line.startsWith("## Promise ") ? new Section() : null;
+                if (open != null) {
+                    sections.add(open);
+                }
             } else if (open != null) {
                 open.add(line);
             }
@@ -112,7 +110,7 @@ final class Book {
 
     boolean close() {
         testing = "";
-        for (int i = 0; i <= PROMISES; i++) {
+        for (int i = 0; i < sections.size(); i++) {
             for (String sentence : sections.get(i).unquoted()) {
                 tell((i == DESCRIPTION ? "description" : "promise " + i) + " has no test of \"" + sentence + "\"");
             }

@@ -1,6 +1,5 @@
 /** The sentences of promises 30 to 38: letters, threads, folders. */
 final class LetterSentences extends Sentences {
-    private static final int[] NO_STORES = {LOWEST, -1, 2, HIGHEST};
     private static final int[] NO_LETTERS = {LOWEST, -1, 3, 29, 30, HIGHEST};
     private static final int[] NO_FOLDERS = {LOWEST, -1, 4, HIGHEST};
     /** 102 signs in 12 lines; it has a parent if one with the name 5 or 12 is held. */

@@ -344,7 +344,7 @@ final class OutSentences extends Sentences {
         });
         test(45, "Returns how often one knocked, with this.", () -> {
             Postroom x = new Postroom();
-            for (int i = 1; i <= 400; i++) {
+            for (int i = 1; i <= 512; i++) {
                 due("knock", x.knock(), i);
             }
         });
@@ -389,6 +389,8 @@ final class OutSentences extends Sentences {
             due("a new object", new Postroom().isSound(), true);
             due("a busy room", busy().isSound(), true);
             due("a full room", full().isSound(), true);
+            Postroom x = holding("F:a@a|I:1|K:d1||--1|K:d2||--2|K:d3||--3||b|--3-|--2-|--1-");
+            due("parts of parts of parts", x.isSound() + " " + x.ofLetter(0, 3), "true 1");
         });
         test(47, "each LETTER has a text without FAULT, and no two have the same NAME", () -> {
             Postroom x = full();
@@ -412,6 +414,12 @@ final class OutSentences extends Sentences {
             x.flag(0, 0, 3, true);
             x.expunge(0);
             due("without the root", x.isSound(), true);
+            Postroom chain = new Postroom();
+            chain.quota(0, 2000);
+            for (int i = 0; i < 30; i++) {
+                post(chain, 0, "F:a@a|I:" + (100 + i) + "|R:" + (99 + i));
+            }
+            due("30 one behind the other", chain.isSound() + " " + chain.ofStore(0, 5), "true 1");
         });
         test(47, "TYPED in CODE q, read by q, is TYPED, likewise by b, and quoted and unquoted", () -> {
             due("all signs", typing(SIGNS).isSound(), true);
@@ -506,15 +514,15 @@ final class OutSentences extends Sentences {
         test(48, "Computes a checksum. A number d starts with 5802; then d becomes d * 31 + v", () ->
             due("a new object", new Postroom().digest(), summed(new Postroom()).d.longValue()));
         test(48, "which wraps around as a 64-bit integer", () -> {
-            Postroom x = new Postroom();
-            due("more than 64 bits", summed(x).d.bitLength() > 64, true);
+            due("more than 64 bits", summed(new Postroom()).d.bitLength() > 64, true);
             boolean isNegative = false;
             boolean isPositive = false;
-            for (int i = 0; i < 20; i++) {
-                x.knock();
-                due("the lowest 64 bits", x.digest(), summed(x).d.longValue());
-                isNegative = isNegative || x.digest() < 0;
-                isPositive = isPositive || x.digest() > 0;
+            for (int signs = 0; signs < 20; signs++) {
+                Postroom x = typing(times(signs, "a"));
+                long digest = x.digest();
+                due("the lowest 64 bits", digest, summed(x).d.longValue());
+                isNegative = isNegative || digest < 0;
+                isPositive = isPositive || digest > 0;
             }
             due("below 0 and above 0", isNegative && isPositive, true);
         });

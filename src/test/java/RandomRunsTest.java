@@ -5,7 +5,8 @@ import java.util.function.Supplier;
 
 /** Runs of random calls, each asked of Postroom and of Model, which have to answer alike. */
 public final class RandomRunsTest {
-    private static final int CALLS = 512;
+    /** An object is used for 512 calls; the last one is digest(). */
+    private static final int CALLS = 511;
 
     private final Random random;
     private final Postroom room = new Postroom();
@@ -35,10 +36,10 @@ public final class RandomRunsTest {
     private String run() {
         try {
             weigh();
-            while (calls < CALLS - 20) {
+            while (calls < CALLS) {
                 step();
             }
-            check("digest()", room::digest, model::digest);
+            compare("digest()", room::digest, model::digest);
         } catch (AssertionError e) {
             return e.getMessage();
         }
@@ -46,6 +47,12 @@ public final class RandomRunsTest {
     }
 
     private void check(String call, Supplier<Object> real, Supplier<Object> due) {
+        if (calls < CALLS) {
+            compare(call, real, due);
+        }
+    }
+
+    private void compare(String call, Supplier<Object> real, Supplier<Object> due) {
         calls++;
         Object want = outcome(due);
         Object got = outcome(real);

@@ -9,6 +9,7 @@ abstract class Sentences {
     static final int NONE = -1;
     static final int LOWEST = Integer.MIN_VALUE;
     static final int HIGHEST = Integer.MAX_VALUE;
+    static final int[] NO_STORES = {LOWEST, -1, 2, HIGHEST};
 
     private final Book book;
 
@@ -38,9 +39,23 @@ abstract class Sentences {
 
     /** The call answers or throws that, and then the room is like another one in which it was not made. */
     final void refused(Supplier<Postroom> made, String what, Call call, Object want) {
-        Postroom x = made.get();
+        Postroom x = furnished(made.get());
         due(what, outcome(x, call), want);
-        due("the room after " + what, Probe.of(x), Probe.of(made.get()));
+        due("the room after " + what, Probe.of(x), Probe.of(furnished(made.get())));
+    }
+
+    /** The room with something of all that no call tells, so that a change of it would be seen. */
+    private static Postroom furnished(Postroom x) {
+        x.down(3, true);
+        x.down(9, true);
+        x.member(2, false, 9, true);
+        x.member(2, true, 1, true);
+        x.ask(3, 5, 0, true);
+        if (x.house(2) < 6) {
+            x.rule(2, 0, 3, false);
+        }
+        x.knock();
+        return x;
     }
 
     /** A busy room refuses the call. */

@@ -1,7 +1,5 @@
 /** The sentences of promises 17 to 29: stores. */
 final class StoreSentences extends Sentences {
-    private static final int[] NO_STORES = {LOWEST, -1, 2, HIGHEST};
-
     StoreSentences(Book book) {
         super(book);
     }
@@ -21,14 +19,14 @@ final class StoreSentences extends Sentences {
         search();
     }
 
-    private void noStore(Call2 call) {
+    private interface StoreCall {
+        Object on(Postroom x, int store);
+    }
+
+    private void noStore(StoreCall call) {
         for (int store : NO_STORES) {
             refused("store " + store, x -> call.on(x, store), INDEX);
         }
-    }
-
-    private interface Call2 {
-        Object on(Postroom x, int number);
     }
 
     /** A letter of 17 or 18 signs. */
@@ -499,11 +497,12 @@ final class StoreSentences extends Sentences {
         });
         test(23, "if there are 6", () -> {
             refused(StoreSentences::sixRules, "a seventh", x -> x.rule(2, 0, 0, false), STATE);
+            refused(StoreSentences::sixRules, "a seventh", x -> x.rule(4, 999, 3, true), STATE);
             Postroom x = sixRules();
             x.unrule();
-            due("a sixth", x.rule(2, 0, 2, false), 6);
+            due("a sixth", x.rule(2, 0, 3, false), 6);
             post(x, 0, plain(7));
-            due("it is tried", x.box(0, 2), "1");
+            due("it is tried", x.box(0, 3), "1");
         });
         test(24, "The last RULE goes, if there is one. (BOXES stay.)", () -> {
             Postroom x = new Postroom();
@@ -526,13 +525,13 @@ final class StoreSentences extends Sentences {
         });
     }
 
-    /** With a letter that is in box 0, and six rules that it fits. */
+    /** With a letter that is in box 0, and six rules that it fits, of which the last one alone is of box 3. */
     private static Postroom sixRules() {
         Postroom x = new Postroom();
         x.rule(2, 0, 0, false);
         post(x, 0, plain(1));
         for (int i = 1; i < 6; i++) {
-            x.rule(2, 1, i % 3, false);
+            x.rule(2, 1, i < 5 ? i % 3 : 3, false);
         }
         return x;
     }

@@ -90,6 +90,11 @@ final class TextSentences extends Sentences {
             asked("question", x -> x.question(0));
             asked("reached", x -> x.reached(1));
             asked("isSound", Postroom::isSound);
+            asked("a line that is not there", x -> x.depth(9));
+            asked("an address that is not there", x -> x.address(9, true));
+            asked("a leaf that is not there", x -> x.leaf(0, 9, 0));
+            asked("one that is not held", x -> x.held(0, 2, 0));
+            asked("the thread of one that is not held", x -> x.thread(0, 2));
             asked("digest", Postroom::digest);
             for (int i = 0; i <= 10; i++) {
                 int what = i;
