@@ -74,7 +74,14 @@ abstract class Sentences {
     }
 
     private static int code(String text, int place) {
-        return place < text.length() ? SIGNS.indexOf(text.charAt(place)) : NONE;
+        if (place >= text.length()) {
+            return NONE;
+        }
+        int code = SIGNS.indexOf(text.charAt(place));
+        if (code < 0) {
+            throw new IllegalArgumentException("no sign: " + text.charAt(place));
+        }
+        return code;
     }
 
     static Postroom typing(String text) {
