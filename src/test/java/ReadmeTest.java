@@ -86,7 +86,7 @@ public final class ReadmeTest {
         for (String part : List.of("README.md", "src", ".ci")) {
             copyTo(Path.of(part), checkout.resolve(part));
         }
-        copyTo(Path.of("../shared"), copy.resolve("shared"));
+        copyTo(Path.of("../shared").toRealPath(), copy.resolve("shared"));
         Files.delete(checkout.resolve("src/test/java").resolve(ITSELF));
     }
 
